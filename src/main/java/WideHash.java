@@ -2,7 +2,8 @@
  * SHA-512, SHA-384 and SipHash-2-4 by numbers of 32 bits alone.
  *
  * <p>A number of 64 bits is a pair of ints, its high half and its low half. Rows of such numbers
- * are rows of ints in which each high half stands just before its low half.
+ * are rows of ints in which each high half stands just before its low half; only the key, whose
+ * halves the document numbers, has its low halves first.
  */
 public final class WideHash {
     private static final int NONE = 0;
@@ -379,7 +380,7 @@ public final class WideHash {
 
         void begin(int[] key) {
             for (int at = V0; at <= V3; at += 2) {
-                // v0 and v2 take p, v1 and v3 take q; the key has its low halves first.
+                // v0 and v2 take p, v1 and v3 take q.
                 int keyLow = at & 2;
                 v[at] = FIRST[at] ^ key[keyLow + 1];
                 v[at + 1] = FIRST[at + 1] ^ key[keyLow];
