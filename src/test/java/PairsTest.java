@@ -1,4 +1,4 @@
-/** Promises 12 to 15: sums and turns of pairs, at any time. */
+/** Promises 12 to 15: sums and turns of pairs, each promise by itself, against Java's longs. */
 public final class PairsTest {
     private static final Due DUE = new Due("PairsTest");
 
@@ -13,72 +13,64 @@ public final class PairsTest {
     };
 
     public static void main(String[] args) {
-        pairs();
-        pairsChangeNothing();
+        for (int h : HALVES) {
+            for (int l : HALVES) {
+                lowSums(h, l);
+                highSums(h, l);
+                highTurns(h, l);
+                lowTurns(h, l);
+            }
+        }
         DUE.end();
     }
 
-    private static void pairs() {
-        for (int h : HALVES) {
-            for (int l : HALVES) {
-                sums(h, l);
-                turns(h, l);
-            }
-        }
-    }
-
     /** New objects come often, here and below, since one is promised 512 calls alone. */
-    private static void turns(int h, int l) {
-        WideHash near = new WideHash();
-        for (int n = -127; n <= 128; n++) {
-            turn(near, h, l, n);
-        }
-        WideHash far = new WideHash();
-        for (int n : FAR_TURNS) {
-            turn(far, h, l, n);
-        }
-    }
-
-    private static void sums(int ah, int al) {
+    private static void lowSums(int ah, int al) {
+        DUE.sentence("Promise 12: The low half of the sum of two long numbers");
+        WideHash x = new WideHash();
         for (int bh : HALVES) {
-            WideHash x = new WideHash();
             for (int bl : HALVES) {
-                long sum = joined(ah, al) + joined(bh, bl);
-                String of = "(" + ah + ", " + al + ", " + bh + ", " + bl + ")";
-                DUE.is("add64Lo" + of, x.add64Lo(ah, al, bh, bl), (int) sum);
-                DUE.is("add64Hi" + of, x.add64Hi(ah, al, bh, bl), (int) (sum >>> 32));
+                String call = "add64Lo(" + ah + ", " + al + ", " + bh + ", " + bl + ")";
+                DUE.is(call, x.add64Lo(ah, al, bh, bl), (int) (joined(ah, al) + joined(bh, bl)));
             }
         }
     }
 
-    private static void turn(WideHash x, int h, int l, int n) {
-        long due = Long.rotateRight(joined(h, l), Math.floorMod(n, 64));
-        String of = "(" + h + ", " + l + ", " + n + ")";
-        DUE.is("rotr64Hi" + of, x.rotr64Hi(h, l, n), (int) (due >>> 32));
-        DUE.is("rotr64Lo" + of, x.rotr64Lo(h, l, n), (int) due);
-    }
-
-    private static void pairsChangeNothing() {
+    private static void highSums(int ah, int al) {
+        DUE.sentence("Promise 13: The high half");
         WideHash x = new WideHash();
-        x.init();
-        x.beginSha(512);
-        x.update('a');
-        askAll(x);
-        DUE.is("state() of an open digest after pairs", x.state(), 1);
-        DUE.is("length() of an open digest after pairs", x.length(), 1);
-        x.close();
-        askAll(x);
-        int[] words = Reference.sha(512, new byte[] {'a'});
-        for (int i = 0; i < words.length; i++) {
-            DUE.is("word(" + i + ") after pairs", x.word(i), words[i]);
+        for (int bh : HALVES) {
+            for (int bl : HALVES) {
+                String call = "add64Hi(" + ah + ", " + al + ", " + bh + ", " + bl + ")";
+                DUE.is(call, x.add64Hi(ah, al, bh, bl), (int) ((joined(ah, al) + joined(bh, bl)) >>> 32));
+            }
         }
     }
 
-    private static void askAll(WideHash x) {
-        DUE.is("add64Lo in use", x.add64Lo(1, -1, 0, 1), 0);
-        DUE.is("add64Hi in use", x.add64Hi(1, -1, 0, 1), 2);
-        DUE.is("rotr64Hi in use", x.rotr64Hi(1, 2, 32), 2);
-        DUE.is("rotr64Lo in use", x.rotr64Lo(1, 2, 32), 1);
+    private static void highTurns(int h, int l) {
+        DUE.sentence("Promise 14: The high half of a long number turned to the right by n");
+        WideHash x = new WideHash();
+        for (int n = -130; n <= 130; n++) {
+            DUE.is("rotr64Hi(" + h + ", " + l + ", " + n + ")", x.rotr64Hi(h, l, n), (int) (turned(h, l, n) >>> 32));
+        }
+        for (int n : FAR_TURNS) {
+            DUE.is("rotr64Hi(" + h + ", " + l + ", " + n + ")", x.rotr64Hi(h, l, n), (int) (turned(h, l, n) >>> 32));
+        }
+    }
+
+    private static void lowTurns(int h, int l) {
+        DUE.sentence("Promise 15: The low half");
+        WideHash x = new WideHash();
+        for (int n = -130; n <= 130; n++) {
+            DUE.is("rotr64Lo(" + h + ", " + l + ", " + n + ")", x.rotr64Lo(h, l, n), (int) turned(h, l, n));
+        }
+        for (int n : FAR_TURNS) {
+            DUE.is("rotr64Lo(" + h + ", " + l + ", " + n + ")", x.rotr64Lo(h, l, n), (int) turned(h, l, n));
+        }
+    }
+
+    private static long turned(int h, int l, int n) {
+        return Long.rotateRight(joined(h, l), Math.floorMod(n, 64));
     }
 
     private static long joined(int high, int low) {
