@@ -8,11 +8,11 @@ public final class DigestsTest {
 
     public static void main(String[] args) {
         for (Kind kind : Kind.values()) {
-            everyLength(kind);
-            longRuns(kind);
-            longest(kind);
+            DUE.test("every length of " + kind, () -> everyLength(kind));
+            DUE.test("long runs of " + kind, () -> longRuns(kind));
+            DUE.test("the longest message of " + kind, () -> longest(kind));
         }
-        inPieces();
+        DUE.test("messages in pieces", DigestsTest::inPieces);
         DUE.end();
     }
 

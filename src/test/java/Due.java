@@ -13,9 +13,21 @@ final class Due {
         this.test = test;
     }
 
-    /** The sentence of the document that the answers from here on belong to. */
-    void sentence(String words) {
+    /** Tests one sentence of the document; no call may throw, so one that does is a wrong answer. */
+    void test(String words, Runnable calls) {
         sentence = " [" + words + "]";
+        int before = looked;
+        try {
+            calls.run();
+        } catch (RuntimeException e) {
+            wrong++;
+            System.out.println(test + sentence + ": a call threw " + e);
+        }
+        // A test that looks at nothing would pass whatever the program does.
+        if (looked == before) {
+            wrong++;
+            System.out.println(test + sentence + ": no answer was looked at");
+        }
     }
 
     void is(String call, int got, int want) {
@@ -65,7 +77,7 @@ final class Due {
         words(when + ", closed", x, kind.digest(key, message));
     }
 
-    /** Ends the program: with exit code 1 if an answer was wrong, or if no answer was looked at. */
+    /** Ends the program: with exit code 1 if an answer was wrong or none was looked at. */
     void end() {
         System.out.println(test + ": " + looked + " answers looked at, " + wrong + " not as due");
         System.exit(wrong == 0 && looked > 0 ? 0 : 1);

@@ -1,3 +1,5 @@
+import java.util.function.IntConsumer;
+
 /** Promises 12 to 15: sums and turns of pairs, each promise by itself, against Java's longs. */
 public final class PairsTest {
     private static final Due DUE = new Due("PairsTest");
@@ -13,59 +15,60 @@ public final class PairsTest {
     };
 
     public static void main(String[] args) {
-        for (int h : HALVES) {
-            for (int l : HALVES) {
-                lowSums(h, l);
-                highSums(h, l);
-                highTurns(h, l);
-                lowTurns(h, l);
-            }
-        }
+        DUE.test("Promise 12: The low half of the sum of two long numbers", PairsTest::lowSums);
+        DUE.test("Promise 13: The high half", PairsTest::highSums);
+        DUE.test("Promise 14: The high half of a long number turned to the right by n", PairsTest::highTurns);
+        DUE.test("Promise 15: The low half", PairsTest::lowTurns);
         DUE.end();
     }
 
-    /** New objects come often, here and below, since one is promised 512 calls alone. */
-    private static void lowSums(int ah, int al) {
-        DUE.sentence("Promise 12: The low half of the sum of two long numbers");
-        WideHash x = new WideHash();
-        for (int bh : HALVES) {
-            for (int bl : HALVES) {
-                String call = "add64Lo(" + ah + ", " + al + ", " + bh + ", " + bl + ")";
-                DUE.is(call, x.add64Lo(ah, al, bh, bl), (int) (joined(ah, al) + joined(bh, bl)));
+    private static void lowSums() {
+        eachPair((x, ah, al) -> eachPair((y, bh, bl) -> {
+            String call = "add64Lo(" + ah + ", " + al + ", " + bh + ", " + bl + ")";
+            DUE.is(call, y.add64Lo(ah, al, bh, bl), (int) (joined(ah, al) + joined(bh, bl)));
+        }));
+    }
+
+    private static void highSums() {
+        eachPair((x, ah, al) -> eachPair((y, bh, bl) -> {
+            String call = "add64Hi(" + ah + ", " + al + ", " + bh + ", " + bl + ")";
+            DUE.is(call, y.add64Hi(ah, al, bh, bl), (int) ((joined(ah, al) + joined(bh, bl)) >>> 32));
+        }));
+    }
+
+    private static void highTurns() {
+        eachPair((x, h, l) -> eachTurn(n -> {
+            String call = "rotr64Hi(" + h + ", " + l + ", " + n + ")";
+            DUE.is(call, x.rotr64Hi(h, l, n), (int) (turned(h, l, n) >>> 32));
+        }));
+    }
+
+    private static void lowTurns() {
+        eachPair((x, h, l) -> eachTurn(n -> {
+            String call = "rotr64Lo(" + h + ", " + l + ", " + n + ")";
+            DUE.is(call, x.rotr64Lo(h, l, n), (int) turned(h, l, n));
+        }));
+    }
+
+    private interface OfPair {
+        void look(WideHash x, int high, int low);
+    }
+
+    /** Each pair comes with a new object, since one is promised 512 calls alone. */
+    private static void eachPair(OfPair looking) {
+        for (int high : HALVES) {
+            for (int low : HALVES) {
+                looking.look(new WideHash(), high, low);
             }
         }
     }
 
-    private static void highSums(int ah, int al) {
-        DUE.sentence("Promise 13: The high half");
-        WideHash x = new WideHash();
-        for (int bh : HALVES) {
-            for (int bl : HALVES) {
-                String call = "add64Hi(" + ah + ", " + al + ", " + bh + ", " + bl + ")";
-                DUE.is(call, x.add64Hi(ah, al, bh, bl), (int) ((joined(ah, al) + joined(bh, bl)) >>> 32));
-            }
-        }
-    }
-
-    private static void highTurns(int h, int l) {
-        DUE.sentence("Promise 14: The high half of a long number turned to the right by n");
-        WideHash x = new WideHash();
+    private static void eachTurn(IntConsumer looking) {
         for (int n = -130; n <= 130; n++) {
-            DUE.is("rotr64Hi(" + h + ", " + l + ", " + n + ")", x.rotr64Hi(h, l, n), (int) (turned(h, l, n) >>> 32));
+            looking.accept(n);
         }
         for (int n : FAR_TURNS) {
-            DUE.is("rotr64Hi(" + h + ", " + l + ", " + n + ")", x.rotr64Hi(h, l, n), (int) (turned(h, l, n) >>> 32));
-        }
-    }
-
-    private static void lowTurns(int h, int l) {
-        DUE.sentence("Promise 15: The low half");
-        WideHash x = new WideHash();
-        for (int n = -130; n <= 130; n++) {
-            DUE.is("rotr64Lo(" + h + ", " + l + ", " + n + ")", x.rotr64Lo(h, l, n), (int) turned(h, l, n));
-        }
-        for (int n : FAR_TURNS) {
-            DUE.is("rotr64Lo(" + h + ", " + l + ", " + n + ")", x.rotr64Lo(h, l, n), (int) turned(h, l, n));
+            looking.accept(n);
         }
     }
 

@@ -3,57 +3,60 @@ public final class PromisesTest {
     private static final Due DUE = new Due("PromisesTest");
 
     public static void main(String[] args) {
-        noDigest();
-        keyIsZero();
-        notReady();
+        DUE.test("Promise 1: No digest", PromisesTest::noDigest);
+        DUE.test("Promise 1: the key is 0", PromisesTest::keyIsZero);
+        DUE.test("Promise 1: It is not READY", PromisesTest::notReady);
 
-        ready();
-        readyAlsoIfItWas();
-        initChangesNothingElse();
+        DUE.test("Promise 2: It is READY", PromisesTest::ready);
+        DUE.test("Promise 2: (also if it was)", PromisesTest::readyAlsoIfItWas);
+        DUE.test("Promise 2: It is READY, and nothing else", PromisesTest::initChangesNothingElse);
 
-        shaBegins();
-        shaBeginsWithNoMessage();
-        shaNotReady();
-        shaOtherBits();
-        shaOtherBitsChangeNothing();
+        DUE.test("Promise 3: SHA-512 (bits 512) or SHA-384 (384) begins", PromisesTest::shaBegins);
+        DUE.test("Promise 3: begins, with no message", PromisesTest::shaBeginsWithNoMessage);
+        DUE.test("Promise 3: false, changing nothing, if it is not READY", PromisesTest::shaNotReady);
+        DUE.test("Promise 3: false, changing nothing, if bits are others", PromisesTest::shaOtherBits);
+        DUE.test("Promise 3: changing nothing of a digest, if bits are others",
+                PromisesTest::shaOtherBitsChangeNothing);
 
-        eachHalfOfTheKey();
-        fromTheNextBeginSipOn();
-        keyStays();
-        noSuchHalf();
-        keyAtAnyTime();
+        DUE.test("Promise 4: Half i of the key (0 .. 3: low p, high p, low q, high q)",
+                PromisesTest::eachHalfOfTheKey);
+        DUE.test("Promise 4: from the next beginSip() on", PromisesTest::fromTheNextBeginSipOn);
+        DUE.test("Promise 4: from the next beginSip() on, and with each one behind it", PromisesTest::keyStays);
+        DUE.test("Promise 4: false: there is no such half", PromisesTest::noSuchHalf);
+        DUE.test("Promise 4: true, whatever there is", PromisesTest::keyAtAnyTime);
 
-        sipBeginsWithTheKey();
-        sipBeginsWithNoMessage();
-        sipNotReady();
+        DUE.test("Promise 5: SipHash begins with the key", PromisesTest::sipBeginsWithTheKey);
+        DUE.test("Promise 5: begins with the key, with no message", PromisesTest::sipBeginsWithNoMessage);
+        DUE.test("Promise 5: false, changing nothing, if it is not READY", PromisesTest::sipNotReady);
 
-        aByte();
-        byteWithoutOpenDigest();
-        notAByte();
+        DUE.test("Promise 6: A byte of the message: true", PromisesTest::aByte);
+        DUE.test("Promise 6: false, changing nothing: no digest is OPEN", PromisesTest::byteWithoutOpenDigest);
+        DUE.test("Promise 6: false, changing nothing: b is not 0 .. 255", PromisesTest::notAByte);
 
-        runLengths();
-        runModulo256();
-        runOfNone();
-        runWithoutOpenDigest();
-        notARunLength();
+        DUE.test("Promise 7: n bytes, n 0 .. 2000: true", PromisesTest::runLengths);
+        DUE.test("Promise 7: b, b + step, b + 2 step, .., each modulo 256 (0 .. 255)", PromisesTest::runModulo256);
+        DUE.test("Promise 7: n bytes, n being 0", PromisesTest::runOfNone);
+        DUE.test("Promise 7: false, changing nothing: no digest is OPEN", PromisesTest::runWithoutOpenDigest);
+        DUE.test("Promise 7: false, changing nothing: n is not 0 .. 2000", PromisesTest::notARunLength);
 
-        closes();
-        closeWithoutOpenDigest();
+        DUE.test("Promise 8: The message ends, the digest is CLOSED: true", PromisesTest::closes);
+        DUE.test("Promise 8: false: none is OPEN", PromisesTest::closeWithoutOpenDigest);
 
-        words();
-        wordOfNoClosedDigest();
-        noSuchWord();
+        DUE.test("Promise 9: Word i of a CLOSED digest, its high halves first", PromisesTest::words);
+        DUE.test("Promise 9: of a CLOSED digest. Else 0", PromisesTest::wordOfNoClosedDigest);
+        DUE.test("Promise 9: of SHA-512 0 .. 15, of SHA-384 0 .. 11, of SipHash 0, 1. Else 0",
+                PromisesTest::noSuchWord);
 
-        length();
-        lengthOfTheLast();
-        lengthWithoutOne();
+        DUE.test("Promise 10: How many bytes the message has", PromisesTest::length);
+        DUE.test("Promise 10: that began last", PromisesTest::lengthOfTheLast);
+        DUE.test("Promise 10: 0 without one", PromisesTest::lengthWithoutOne);
 
-        state();
+        DUE.test("Promise 11: 0 no digest, 1 SHA-512, 2 SHA-384, 3 SipHash; and 4 more if it is CLOSED",
+                PromisesTest::state);
         DUE.end();
     }
 
     private static void noDigest() {
-        DUE.sentence("Promise 1: No digest");
         WideHash x = new WideHash();
         DUE.stands("new", x, 0, 0);
         DUE.words("new", x);
@@ -63,7 +66,6 @@ public final class PromisesTest {
     }
 
     private static void keyIsZero() {
-        DUE.sentence("Promise 1: the key is 0");
         // The digest of no bytes with key 0, as other programs print it.
         WideHash x = Kind.SIP.opened();
         x.close();
@@ -74,7 +76,6 @@ public final class PromisesTest {
     }
 
     private static void notReady() {
-        DUE.sentence("Promise 1: It is not READY");
         for (Kind kind : Kind.values()) {
             DUE.is("new: beginning of " + kind, kind.begin(new WideHash()), false);
         }
@@ -83,7 +84,6 @@ public final class PromisesTest {
     }
 
     private static void ready() {
-        DUE.sentence("Promise 2: It is READY");
         for (Kind kind : Kind.values()) {
             WideHash x = new WideHash();
             kind.begin(x);
@@ -94,7 +94,6 @@ public final class PromisesTest {
     }
 
     private static void readyAlsoIfItWas() {
-        DUE.sentence("Promise 2: (also if it was)");
         for (Kind kind : Kind.values()) {
             WideHash x = Kind.ready();
             x.init();
@@ -107,7 +106,6 @@ public final class PromisesTest {
 
     /** No other change stands there: a digest, its message and the key stay as they are. */
     private static void initChangesNothingElse() {
-        DUE.sentence("Promise 2: It is READY, and nothing else");
         int[] key = {0, 7, 99, 0};
         for (Kind kind : Kind.values()) {
             WideHash x = new WideHash();
@@ -129,7 +127,6 @@ public final class PromisesTest {
     }
 
     private static void shaBegins() {
-        DUE.sentence("Promise 3: SHA-512 (bits 512) or SHA-384 (384) begins");
         WideHash x = Kind.ready();
         DUE.is("beginSha(512)", x.beginSha(512), true);
         DUE.stands("beginSha(512)", x, 1, 0);
@@ -138,7 +135,6 @@ public final class PromisesTest {
     }
 
     private static void shaBeginsWithNoMessage() {
-        DUE.sentence("Promise 3: begins, with no message");
         for (Kind before : Kind.values()) {
             beginsWithNoMessage(before, Kind.SHA_512);
             beginsWithNoMessage(before, Kind.SHA_384);
@@ -162,7 +158,6 @@ public final class PromisesTest {
     }
 
     private static void shaNotReady() {
-        DUE.sentence("Promise 3: false, changing nothing, if it is not READY");
         for (int bits : new int[] {512, 384, 0}) {
             WideHash x = new WideHash();
             x.sipKey(0, 6);
@@ -182,7 +177,6 @@ public final class PromisesTest {
         384 + 65536, 512 + 65536, Integer.MIN_VALUE + 384, Integer.MIN_VALUE + 512};
 
     private static void shaOtherBits() {
-        DUE.sentence("Promise 3: false, changing nothing, if bits are others");
         for (int bits : OTHER_BITS) {
             otherBits(bits);
         }
@@ -201,7 +195,6 @@ public final class PromisesTest {
     }
 
     private static void shaOtherBitsChangeNothing() {
-        DUE.sentence("Promise 3: changing nothing of a digest, if bits are others");
         for (Kind kind : Kind.values()) {
             for (int bits : OTHER_BITS) {
                 WideHash x = kind.opened();
@@ -218,7 +211,6 @@ public final class PromisesTest {
     }
 
     private static void eachHalfOfTheKey() {
-        DUE.sentence("Promise 4: Half i of the key (0 .. 3: low p, high p, low q, high q)");
         for (int i = 0; i < 4; i++) {
             for (int w : new int[] {1, -1, 0x12345678, Integer.MIN_VALUE, Integer.MAX_VALUE}) {
                 WideHash x = Kind.ready();
@@ -232,7 +224,6 @@ public final class PromisesTest {
     }
 
     private static void fromTheNextBeginSipOn() {
-        DUE.sentence("Promise 4: from the next beginSip() on");
         for (int i = 0; i < 4; i++) {
             WideHash x = Kind.SIP.opened();
             x.sipKey(i, 77);
@@ -249,7 +240,6 @@ public final class PromisesTest {
     }
 
     private static void keyStays() {
-        DUE.sentence("Promise 4: from the next beginSip() on, and with each one behind it");
         int[] key = {1, 2, 3, 4};
         WideHash x = Kind.ready();
         for (int i = 0; i < 4; i++) {
@@ -268,7 +258,6 @@ public final class PromisesTest {
     }
 
     private static void noSuchHalf() {
-        DUE.sentence("Promise 4: false: there is no such half");
         for (int i : new int[] {-1, -2, -4, 4, 5, 8}) {
             noSuchHalf(i);
         }
@@ -292,7 +281,6 @@ public final class PromisesTest {
 
     /** No other refusal stands there: a half is taken in every state, and changes only the key. */
     private static void keyAtAnyTime() {
-        DUE.sentence("Promise 4: true, whatever there is");
         WideHash fresh = new WideHash();
         takesKey("new", fresh);
         DUE.stands("new, with a key", fresh, 0, 0);
@@ -319,7 +307,6 @@ public final class PromisesTest {
     }
 
     private static void sipBeginsWithTheKey() {
-        DUE.sentence("Promise 5: SipHash begins with the key");
         int[] key = {-1, 123456789, 77, Integer.MIN_VALUE};
         WideHash x = new WideHash();
         for (int i = 0; i < 4; i++) {
@@ -332,14 +319,12 @@ public final class PromisesTest {
     }
 
     private static void sipBeginsWithNoMessage() {
-        DUE.sentence("Promise 5: begins with the key, with no message");
         for (Kind before : Kind.values()) {
             beginsWithNoMessage(before, Kind.SIP);
         }
     }
 
     private static void sipNotReady() {
-        DUE.sentence("Promise 5: false, changing nothing, if it is not READY");
         WideHash x = new WideHash();
         x.sipKey(0, 6);
         DUE.is("not ready: beginSip()", x.beginSip(), false);
@@ -354,7 +339,6 @@ public final class PromisesTest {
     }
 
     private static void aByte() {
-        DUE.sentence("Promise 6: A byte of the message: true");
         for (Kind kind : Kind.values()) {
             WideHash x = kind.opened();
             for (int b = 0; b <= 255; b++) {
@@ -373,7 +357,6 @@ public final class PromisesTest {
     }
 
     private static void byteWithoutOpenDigest() {
-        DUE.sentence("Promise 6: false, changing nothing: no digest is OPEN");
         for (int b : new int[] {0, 1, 255, 256, -1}) {
             WideHash x = new WideHash();
             DUE.is("new: update(" + b + ")", x.update(b), false);
@@ -399,7 +382,6 @@ public final class PromisesTest {
     }
 
     private static void notAByte() {
-        DUE.sentence("Promise 6: false, changing nothing: b is not 0 .. 255");
         for (Kind kind : Kind.values()) {
             for (int b : new int[] {-1, -2, -128, -255, 256, 257, 511, 512}) {
                 notAByte(kind, b);
@@ -420,7 +402,6 @@ public final class PromisesTest {
     }
 
     private static void runLengths() {
-        DUE.sentence("Promise 7: n bytes, n 0 .. 2000: true");
         for (Kind kind : Kind.values()) {
             for (int n : new int[] {0, 1, 2, 127, 128, 129, 255, 256, 1999, 2000}) {
                 runIs(kind, n, 1, 1);
@@ -433,7 +414,6 @@ public final class PromisesTest {
     }
 
     private static void runModulo256() {
-        DUE.sentence("Promise 7: b, b + step, b + 2 step, .., each modulo 256 (0 .. 255)");
         int[] edges = {0, 1, -1, 127, 128, -128, 255, 256, 257, -255, -256, -257, 1000003, 1 << 24,
             Integer.MAX_VALUE, Integer.MAX_VALUE - 255, Integer.MIN_VALUE, Integer.MIN_VALUE + 1};
         for (Kind kind : Kind.values()) {
@@ -460,7 +440,6 @@ public final class PromisesTest {
     }
 
     private static void runOfNone() {
-        DUE.sentence("Promise 7: n bytes, n being 0");
         for (Kind kind : Kind.values()) {
             for (int b : Due.FAR) {
                 WideHash x = kind.opened();
@@ -474,7 +453,6 @@ public final class PromisesTest {
     }
 
     private static void runWithoutOpenDigest() {
-        DUE.sentence("Promise 7: false, changing nothing: no digest is OPEN");
         for (int n : new int[] {0, 1, 128, 2000, 2001, -1}) {
             WideHash x = new WideHash();
             DUE.is("new: updates(" + n + ", 1, 1)", x.updates(n, 1, 1), false);
@@ -493,7 +471,6 @@ public final class PromisesTest {
     }
 
     private static void notARunLength() {
-        DUE.sentence("Promise 7: false, changing nothing: n is not 0 .. 2000");
         for (Kind kind : Kind.values()) {
             for (int n : new int[] {-1, -2, -2000, 2001, 2002, 4000}) {
                 notARunLength(kind, n);
@@ -515,7 +492,6 @@ public final class PromisesTest {
     }
 
     private static void closes() {
-        DUE.sentence("Promise 8: The message ends, the digest is CLOSED: true");
         for (Kind kind : Kind.values()) {
             DUE.ends(kind + " with no message", kind.opened(), kind);
             WideHash x = kind.opened();
@@ -525,7 +501,6 @@ public final class PromisesTest {
     }
 
     private static void closeWithoutOpenDigest() {
-        DUE.sentence("Promise 8: false: none is OPEN");
         WideHash x = new WideHash();
         DUE.is("new: close()", x.close(), false);
         DUE.stands("new", x, 0, 0);
@@ -543,7 +518,6 @@ public final class PromisesTest {
     }
 
     private static void words() {
-        DUE.sentence("Promise 9: Word i of a CLOSED digest, its high halves first");
         WideHash x = Kind.SHA_512.opened();
         x.updates(3, 'a', 1);
         x.close();
@@ -563,7 +537,6 @@ public final class PromisesTest {
     }
 
     private static void wordOfNoClosedDigest() {
-        DUE.sentence("Promise 9: of a CLOSED digest. Else 0");
         DUE.words("new", new WideHash());
         DUE.words("ready", Kind.ready());
         for (Kind kind : Kind.values()) {
@@ -578,7 +551,6 @@ public final class PromisesTest {
     }
 
     private static void noSuchWord() {
-        DUE.sentence("Promise 9: of SHA-512 0 .. 15, of SHA-384 0 .. 11, of SipHash 0, 1. Else 0");
         for (Kind kind : Kind.values()) {
             WideHash x = kind.closed();
             int last = kind.words - 1;
@@ -594,7 +566,6 @@ public final class PromisesTest {
     }
 
     private static void length() {
-        DUE.sentence("Promise 10: How many bytes the message has");
         for (Kind kind : Kind.values()) {
             WideHash x = kind.opened();
             DUE.is(kind + " begun: length()", x.length(), 0);
@@ -612,7 +583,6 @@ public final class PromisesTest {
     }
 
     private static void lengthOfTheLast() {
-        DUE.sentence("Promise 10: that began last");
         for (Kind before : Kind.values()) {
             for (Kind kind : Kind.values()) {
                 WideHash x = before.closed();
@@ -629,7 +599,6 @@ public final class PromisesTest {
     }
 
     private static void lengthWithoutOne() {
-        DUE.sentence("Promise 10: 0 without one");
         WideHash x = new WideHash();
         DUE.is("new: length()", x.length(), 0);
         x.update(1);
@@ -644,7 +613,6 @@ public final class PromisesTest {
     }
 
     private static void state() {
-        DUE.sentence("Promise 11: 0 no digest, 1 SHA-512, 2 SHA-384, 3 SipHash; and 4 more if it is CLOSED");
         WideHash x = new WideHash();
         DUE.is("new: state()", x.state(), 0);
         x.close();

@@ -7,29 +7,32 @@ public final class TermsTest {
     private static final int[] PRINTED_KEY = {0x03020100, 0x07060504, 0x0b0a0908, 0x0f0e0d0c};
 
     public static void main(String[] args) {
-        atMost512Calls();
-        sumsWrap();
-        whatLeavesBelowComesInAbove();
-        turnedModulo64();
-        turnedBelow0();
-        turnedToTheLeft();
-        asFewZerosAsAreWanted();
-        theLengthIsAMultipleOf128();
-        theBitsAs16Bytes();
-        theHighestByteFirst();
-        zerosFromAbove();
-        squareRootsOfTheNinthPrime();
-        sixLongNumbers();
-        sevenMoreThanAMultipleOf8();
-        theLowestByteFirst();
-        lengthModulo256();
-        openFromItsBeginningOn();
-        pairsAtAnyTime();
+        DUE.test("What it is: An object is used for at most 512 calls", TermsTest::atMost512Calls);
+        DUE.test("Terms: sums wrap", TermsTest::sumsWrap);
+        DUE.test("Terms: TURNED to the right by n: what leaves below comes in above",
+                TermsTest::whatLeavesBelowComesInAbove);
+        DUE.test("Terms: n modulo 64 places (0 .. 63)", TermsTest::turnedModulo64);
+        DUE.test("Terms: also for n below 0", TermsTest::turnedBelow0);
+        DUE.test("Terms: to the left likewise", TermsTest::turnedToTheLeft);
+        DUE.test("Terms: by as few bytes 0 as are wanted", TermsTest::asFewZerosAsAreWanted);
+        DUE.test("Terms: the length with the 16 bytes that come is a multiple of 128",
+                TermsTest::theLengthIsAMultipleOf128);
+        DUE.test("Terms: and by 8 n as 16 bytes, the highest first", TermsTest::theBitsAs16Bytes);
+        DUE.test("Terms: 16 long numbers w0 .. w15, the highest byte first", TermsTest::theHighestByteFirst);
+        DUE.test("Terms: XORed with v moved by 7 to lower places (0s from above)", TermsTest::zerosFromAbove);
+        DUE.test("Terms: SHA-384 is the same with the square roots of the ninth to the sixteenth prime",
+                TermsTest::squareRootsOfTheNinthPrime);
+        DUE.test("Terms: and six long numbers of the state at the end", TermsTest::sixLongNumbers);
+        DUE.test("Terms: as many bytes 0 as are wanted so that there are 7 more than a multiple of 8",
+                TermsTest::sevenMoreThanAMultipleOf8);
+        DUE.test("Terms: long numbers m of 8 bytes each, the LOWEST first", TermsTest::theLowestByteFirst);
+        DUE.test("Terms: and a byte n modulo 256", TermsTest::lengthModulo256);
+        DUE.test("Terms: A digest is OPEN from its beginning on, then CLOSED", TermsTest::openFromItsBeginningOn);
+        DUE.test("Terms: ---- pairs, at any time", TermsTest::pairsAtAnyTime);
         DUE.end();
     }
 
     private static void atMost512Calls() {
-        DUE.sentence("What it is: An object is used for at most 512 calls");
         for (Kind kind : Kind.values()) {
             WideHash x = kind.opened();
             byte[] message = new byte[508 * 2000];
@@ -48,7 +51,6 @@ public final class TermsTest {
     }
 
     private static void sumsWrap() {
-        DUE.sentence("Terms: sums wrap");
         sum(0, 0, 0, 0, 0, 0);
         sum(0, -1, 0, 1, 1, 0);
         sum(0, 0x7fffffff, 0, 1, 0, 0x80000000);
@@ -74,7 +76,6 @@ public final class TermsTest {
     }
 
     private static void whatLeavesBelowComesInAbove() {
-        DUE.sentence("Terms: TURNED to the right by n: what leaves below comes in above");
         turn(0, 1, 1, 0x80000000, 0);
         turn(1, 0, 1, 0, 0x80000000);
         turn(0x80000000, 0, 63, 0, 1);
@@ -95,7 +96,6 @@ public final class TermsTest {
     }
 
     private static void turnedModulo64() {
-        DUE.sentence("Terms: n modulo 64 places (0 .. 63");
         for (int n : new int[] {0, 64, 128, 6400, 1 << 30, Integer.MAX_VALUE - 63}) {
             turn(0x01234567, 0x89abcdef, n, 0x01234567, 0x89abcdef);
         }
@@ -117,7 +117,6 @@ public final class TermsTest {
     }
 
     private static void turnedBelow0() {
-        DUE.sentence("Terms: also for n below 0");
         for (int n : new int[] {-64, -128, -6400, Integer.MIN_VALUE}) {
             turn(0x01234567, 0x89abcdef, n, 0x01234567, 0x89abcdef);
         }
@@ -146,12 +145,10 @@ public final class TermsTest {
 
     /** No call turns to the left by itself: only SipHash shows it, here with no byte of a message. */
     private static void turnedToTheLeft() {
-        DUE.sentence("Terms: to the left likewise");
         printedSip(0, 0x726fdb47, 0xdd0e0e31);
     }
 
     private static void asFewZerosAsAreWanted() {
-        DUE.sentence("Terms: by as few bytes 0 as are wanted");
         // 111 bytes want none; 112 want 127, and with them a second block; so 239 and 240 again.
         printedSha(Kind.SHA_512, 111, 0xa1a11144, 0x9b198d9b);
         printedSha(Kind.SHA_512, 112, 0xc5fbd731, 0xd19d2ae1);
@@ -164,7 +161,6 @@ public final class TermsTest {
     }
 
     private static void theLengthIsAMultipleOf128() {
-        DUE.sentence("Terms: the length with the 16 bytes that come is a multiple of 128");
         printedSha(Kind.SHA_512, 0, 0xcf83e135, 0x7eefb8bd);
         printedSha(Kind.SHA_512, 127, 0xeab89674, 0xfeaa34e2);
         printedSha(Kind.SHA_512, 128, 0x1dffd5e3, 0xadb71d45);
@@ -182,7 +178,6 @@ public final class TermsTest {
 
     /** The number of bits takes one byte for 31 bytes, two from 32 on, and three from 8192 on. */
     private static void theBitsAs16Bytes() {
-        DUE.sentence("Terms: and by 8 n as 16 bytes, the highest first");
         for (Kind kind : SHAS) {
             for (int n : new int[] {1, 31, 32, 33, 8191, 8192, 8193, 65536, 900000}) {
                 digest(kind, n, 1, 1);
@@ -191,7 +186,6 @@ public final class TermsTest {
     }
 
     private static void theHighestByteFirst() {
-        DUE.sentence("Terms: 16 long numbers w0 .. w15, the highest byte first");
         for (Kind kind : SHAS) {
             oneByteAtEachPlace(kind, 128);
         }
@@ -211,7 +205,6 @@ public final class TermsTest {
 
     /** All numbers of the block have their highest bit, which a move with a sign would double. */
     private static void zerosFromAbove() {
-        DUE.sentence("Terms: XORed with v moved by 7 to lower places (0s from above)");
         for (Kind kind : SHAS) {
             digest(kind, 111, 255, 0);
             digest(kind, 128, 255, 0);
@@ -221,7 +214,6 @@ public final class TermsTest {
     }
 
     private static void squareRootsOfTheNinthPrime() {
-        DUE.sentence("Terms: SHA-384 is the same with the square roots of the ninth to the sixteenth prime");
         WideHash x = Kind.ready();
         for (int bits : new int[] {512, 384, 512, 384}) {
             Kind kind = bits == 512 ? Kind.SHA_512 : Kind.SHA_384;
@@ -231,7 +223,6 @@ public final class TermsTest {
     }
 
     private static void sixLongNumbers() {
-        DUE.sentence("Terms: and six long numbers of the state at the end");
         WideHash x = Kind.SHA_384.closed();
         int[] due = Kind.SHA_384.digest(new byte[] {5});
         DUE.is("word(10), the high half of the sixth", x.word(10), due[10]);
@@ -243,7 +234,6 @@ public final class TermsTest {
 
     /** 7 bytes want no byte 0, and 8 want 7 of them. */
     private static void sevenMoreThanAMultipleOf8() {
-        DUE.sentence("Terms: as many bytes 0 as are wanted so that there are 7 more than a multiple of 8");
         printedSip(0, 0x726fdb47, 0xdd0e0e31);
         printedSip(1, 0x74f839c5, 0x93dc67fd);
         printedSip(7, 0xab0200f5, 0x8b01d137);
@@ -255,20 +245,17 @@ public final class TermsTest {
     }
 
     private static void theLowestByteFirst() {
-        DUE.sentence("Terms: long numbers m of 8 bytes each, the LOWEST first");
         oneByteAtEachPlace(Kind.SIP, 16);
         oneByteAtEachPlace(Kind.SIP, 7);
     }
 
     private static void lengthModulo256() {
-        DUE.sentence("Terms: and a byte n modulo 256");
         for (int n : new int[] {127, 128, 255, 256, 257, 263, 511, 512, 2000, 32767, 32768, 65535, 65536, 900000}) {
             digest(Kind.SIP, n, 0, 0);
         }
     }
 
     private static void openFromItsBeginningOn() {
-        DUE.sentence("Terms: A digest is OPEN from its beginning on, then CLOSED");
         for (Kind kind : Kind.values()) {
             WideHash x = kind.opened();
             DUE.is(kind + " begun: state()", x.state(), kind.state);
@@ -284,7 +271,6 @@ public final class TermsTest {
     }
 
     private static void pairsAtAnyTime() {
-        DUE.sentence("Terms: ---- pairs, at any time");
         askPairs("new", new WideHash());
         askPairs("ready", Kind.ready());
         for (Kind kind : Kind.values()) {
