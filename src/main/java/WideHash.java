@@ -158,19 +158,19 @@ public final class WideHash {
         row[at + 1] += low;
     }
 
-    /** The lower 32 bits of the pair (upper, lower) moved by 0 .. 31 to lower places. */
-    private static int moved(int upper, int lower, int places) {
-        // Two shifts, since Java takes a shift by 32 for one by 0.
-        return (lower >>> places) | (upper << 1 << (31 - places));
-    }
-
     /**
      * The high half of a pair turned to the right by n. With the halves exchanged, which is a turn
      * by 32, this answers the low half.
+     *
+     * <p>A low half that is moved by fewer than 32 places is the same as one that is turned: only
+     * the high half takes 0s from above.
      */
     private static int turned(int high, int low, int n) {
+        int upper = (n & 32) == 0 ? low : high;
+        int lower = (n & 32) == 0 ? high : low;
         int places = n & 31;
-        return (n & 32) == 0 ? moved(low, high, places) : moved(high, low, places);
+        // Two shifts, since Java takes a shift by 32 for one by 0.
+        return (lower >>> places) | (upper << 1 << (31 - places));
     }
 
     /** SHA-512, and SHA-384, which differs in the state at first and in the words that are shown. */
@@ -306,11 +306,11 @@ public final class WideHash {
             schedule[at + 1] = schedule[at - 31];
             addTo(schedule, at,
                     turned(h15, l15, 1) ^ turned(h15, l15, 8) ^ (h15 >>> 7),
-                    turned(l15, h15, 1) ^ turned(l15, h15, 8) ^ moved(h15, l15, 7));
+                    turned(l15, h15, 1) ^ turned(l15, h15, 8) ^ turned(l15, h15, 7));
             addTo(schedule, at, schedule[at - 14], schedule[at - 13]);
             addTo(schedule, at,
                     turned(h2, l2, 19) ^ turned(h2, l2, 61) ^ (h2 >>> 6),
-                    turned(l2, h2, 19) ^ turned(l2, h2, 61) ^ moved(h2, l2, 6));
+                    turned(l2, h2, 19) ^ turned(l2, h2, 61) ^ turned(l2, h2, 6));
         }
 
         private void mixRound(int at) {
@@ -390,7 +390,7 @@ public final class WideHash {
 
         void take(int b) {
             // The lowest byte comes first: eight bytes push each one down to its place.
-            groupLow = moved(groupHigh, groupLow, 8);
+            groupLow = turned(groupLow, groupHigh, 8);
             groupHigh = (groupHigh >>> 8) | (b << 24);
             filled++;
             if (filled == GROUP_BYTES) {
