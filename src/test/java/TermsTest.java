@@ -176,10 +176,15 @@ public final class TermsTest {
         }
     }
 
-    /** The number of bits takes one byte for 31 bytes, two from 32 on, and three from 8192 on. */
+    /**
+     * The number of bits takes one byte for 31 bytes, two from 32 on, and three from 8192 on. A
+     * fourth would come with 2^21 bytes, but 512 calls with 2000 bytes each give fewer than 2^20:
+     * the 13 higher bytes can only be seen to be 0. From 2^19 bytes on the highest bit of all that
+     * can be reached is set.
+     */
     private static void theBitsAs16Bytes() {
         for (Kind kind : SHAS) {
-            for (int n : new int[] {1, 31, 32, 33, 8191, 8192, 8193, 65536, 900000}) {
+            for (int n : new int[] {1, 31, 32, 33, 8191, 8192, 8193, 65536, (1 << 19) - 1, 1 << 19, 900000}) {
                 digest(kind, n, 1, 1);
             }
         }
