@@ -46,6 +46,8 @@ public final class FaceTest {
 
     private static void face() {
         DUE.same("the class", Modifier.toString(WideHash.class.getModifiers()), "public final");
+        DUE.same("what it extends", WideHash.class.getSuperclass().getName(), "java.lang.Object");
+        DUE.is("interfaces", WideHash.class.getInterfaces().length, 0);
         Set<String> visible = new TreeSet<>();
         for (Method method : WideHash.class.getDeclaredMethods()) {
             if (!Modifier.isPrivate(method.getModifiers())) {
